@@ -91,9 +91,6 @@ public final class CandidateRanges {
         if (kind == Filter.BOX) {
             return filterOfBox(a, v);
         }
-        if (filterCount >= MOST_FILTERS) {
-            return FULL;
-        }
         return keepFilter(new NumberFilter(filterCount, kind, a, v));
     }
 
@@ -117,17 +114,13 @@ public final class CandidateRanges {
         }
         // The distance may need all 64 bits, so it is taken, and divided, without sign.
         long steps = low > high ? -1 : Long.divideUnsigned(high - low, step);
-        boolean tooMany = low <= high && (steps < 0 || steps == Long.MAX_VALUE);
-        if (sourceCount >= MOST_SOURCES || tooMany) {
+        if (low <= high && (steps < 0 || steps == Long.MAX_VALUE)) {
             return FULL;
         }
         return keepSource(new Source(new Stretch(low, step, false, steps + 1)));
     }
 
     public int list() {
-        if (sourceCount >= MOST_SOURCES) {
-            return FULL;
-        }
         // A LIST keeps its numbers on a shelf of its own, which no call can empty.
         Shelf own = new Shelf();
         own.hold(Shelf.LONGS, 0);
@@ -152,11 +145,10 @@ public final class CandidateRanges {
         Source first = sourceAt(s);
         Source second = sort <= Source.LESS ? sourceAt(t) : null;
         Filter filter = sort == Source.PASS ? filterAt(a) : null;
-        if (first == null || second == null && sort <= Source.LESS || filter == null && sort == Source.PASS) {
+        boolean lacksSecond = sort <= Source.LESS && second == null;
+        boolean lacksFilter = sort == Source.PASS && filter == null;
+        if (first == null || lacksSecond || lacksFilter) {
             return NONE;
-        }
-        if (sourceCount >= MOST_SOURCES || Source.depthOver(first, second) > DEEPEST) {
-            return FULL;
         }
         return keepSource(new Source(sort, first, second, filter, null, n, v));
     }
@@ -261,20 +253,13 @@ public final class CandidateRanges {
         if (first == null || two && second == null) {
             return NONE;
         }
-        int depth = 1 + Math.max(first.depth, second == null ? 0 : second.depth);
-        if (filterCount >= MOST_FILTERS || depth > DEEPEST) {
-            return FULL;
-        }
-        return keepFilter(new MadeFilter(filterCount, depth, kind, first, second));
+        return keepFilter(new MadeFilter(filterCount, kind, first, second));
     }
 
     private int filterOfShelf(int kind, int a, long v) {
         Shelf held = shelfAt(a);
         if (held == null) {
             return BAD;
-        }
-        if (filterCount >= MOST_FILTERS) {
-            return FULL;
         }
         int wanted = kind == Filter.ITEM ? Shelf.LONGS : Shelf.POINT;
         return keepFilter(new ShelfFilter(filterCount, held, wanted, v));
@@ -285,14 +270,11 @@ public final class CandidateRanges {
         if (held == null) {
             return BAD;
         }
-        if (filterCount >= MOST_FILTERS) {
-            return FULL;
-        }
         return keepFilter(new BoxFilter(filterCount, held, (int) Math.abs(v % THINGS)));
     }
 
     private int keepFilter(Filter made) {
-        if (filterCount >= MOST_FILTERS) {
+        if (filterCount >= MOST_FILTERS || made.depth > DEEPEST) {
             return FULL;
         }
         filters[filterCount] = made;
@@ -311,14 +293,11 @@ public final class CandidateRanges {
         if (held == null) {
             return BAD;
         }
-        if (sourceCount >= MOST_SOURCES) {
-            return FULL;
-        }
         return keepSource(new Source(Source.SHELF, null, null, null, held, 0, 0));
     }
 
     private int keepSource(Source made) {
-        if (sourceCount >= MOST_SOURCES) {
+        if (sourceCount >= MOST_SOURCES || made.depth > DEEPEST) {
             return FULL;
         }
         sources[sourceCount] = made;
@@ -578,8 +557,8 @@ public final class CandidateRanges {
         private final Filter second;
         private int timesAsked;
 
-        MadeFilter(int number, int depth, int kind, Filter first, Filter second) {
-            super(number, depth);
+        MadeFilter(int number, int kind, Filter first, Filter second) {
+            super(number, 1 + Math.max(first.depth, second == null ? 0 : second.depth));
             this.kind = kind;
             this.first = first;
             this.second = second;
@@ -693,7 +672,7 @@ public final class CandidateRanges {
             this.v = v;
         }
 
-        static int depthOver(Source s, Source t) {
+        private static int depthOver(Source s, Source t) {
             return 1 + Math.max(s == null ? 0 : s.depth, t == null ? 0 : t.depth);
         }
 

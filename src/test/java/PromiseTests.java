@@ -186,6 +186,17 @@ public final class PromiseTests {
         due("5: 20 filters are kept", 20, x.told(0));
     }
 
+    private static void promise5FilterDepth() {
+        for (int kind : new int[] {0, 1, 2, 3, 4, 5, 6, 12}) {
+            CandidateRanges x = new CandidateRanges();
+            x.filter(kind, 0, 0, 0);
+            for (int f = 1; f < 6; f++) {
+                due("5: NOTs over kind " + kind, f, x.filter(7, f - 1, 0, 0));
+            }
+            due("5: a seventh over kind " + kind, FULL, x.filter(7, 5, 0, 0));
+        }
+    }
+
     private static void promise6AskOfNumbers() {
         CandidateRanges x = new CandidateRanges();
         due("6: no filter -1", NONE, x.ask(-1, 0));
@@ -456,6 +467,17 @@ public final class PromiseTests {
         due("11: BAD before FULL", BAD, x.source(9, 0, 0, 6, 0, 0));
     }
 
+    private static void promise11SourceDepth() {
+        for (int sort : new int[] {0, 1, 9}) {
+            CandidateRanges x = new CandidateRanges();
+            due("11: source 0", 0, sort == 0 ? x.span(1, 2, 1) : sort == 1 ? x.list() : x.source(9, 0, 0, 0, 0, 0));
+            for (int s = 1; s < 6; s++) {
+                due("11: TURNEDs over sort " + sort, s, x.source(5, s - 1, 0, 0, 0, 0));
+            }
+            due("11: a seventh over sort " + sort, FULL, x.source(5, 5, 0, 0, 0, 0));
+        }
+    }
+
     private static void promise12RangeOfLists() {
         CandidateRanges x = new CandidateRanges();
         int s = listOf(x, 5, 1, 5, 3, 1, 8), t = listOf(x, 1, 9, 5, 9);
@@ -541,6 +563,8 @@ public final class PromiseTests {
         due("12: PASS of 201", LARGE, x.range(pass(x, large, f)));
         due("12: not asked", 200, x.asked(f));
         due("12: the latest RANGE stays", 200, x.size());
+        due("12: JOIN of 200", 1, x.range(join(x, most, x.list())));
+        due("12: JOIN of 200", 200, x.size());
         int join = join(x, most, one);
         due("12: JOIN of 201, one of them twice", LARGE, x.range(join));
         due("12: EVERY of that", LARGE, x.range(x.source(8, join, 0, 0, 200, 0)));
@@ -603,6 +627,46 @@ public final class PromiseTests {
         due("12: 20 met", 1, x.range(pass(x, x.span(1, 20, 1), met)));
         due("12: 20 pass", 20, x.size());
         due("12: 20 FAILURES", 20, x.told(2));
+    }
+
+    /** What a source of any sort gathers as t, behind the numbers of s. */
+    private static void promise12RangeOfT() {
+        CandidateRanges x = new CandidateRanges();
+        int s = listOf(x, 1, 2), none = x.list(), t = listOf(x, 3, 9, 4, 8, 5);
+        int below = x.filter(0, 0, 0, 6);
+        x.range(join(x, s, none));
+        dueRange("12: JOIN, t has none", x, 1, 2);
+        x.range(join(x, none, s));
+        dueRange("12: JOIN, s has none", x, 1, 2);
+        x.range(x.source(4, t, none, 0, 0, 0));
+        dueRange("12: LESS, t has none", x, 3, 9, 4, 8, 5);
+        x.range(x.source(3, s, t, 0, 0, 0));
+        dueRange("12: MEET, nothing in both", x);
+        x.range(x.source(4, none, t, 0, 0, 0));
+        dueRange("12: LESS, s has none", x);
+        x.range(join(x, s, x.source(5, t, 0, 0, 0, 0)));
+        dueRange("12: JOIN, t is TURNED", x, 1, 2, 5, 8, 4, 9, 3);
+        x.range(join(x, s, x.source(6, t, 0, 0, 200, 8)));
+        dueRange("12: JOIN, t is NEAR", x, 1, 2, 8, 9, 5, 4, 3);
+        x.range(join(x, s, x.source(8, t, 0, 0, 2, 0)));
+        dueRange("12: JOIN, t is EVERY", x, 1, 2, 3, 4, 5);
+        x.range(join(x, s, pass(x, t, below)));
+        dueRange("12: JOIN, t is PASS", x, 1, 2, 3, 4, 5);
+        x.range(join(x, s, join(x, t, s)));
+        dueRange("12: JOIN, t is JOIN", x, 1, 2, 3, 9, 4, 8, 5);
+    }
+
+    private static void promise12RangeOfEvery() {
+        CandidateRanges x = new CandidateRanges();
+        int four = listOf(x, 4, 3, 2, 1);
+        x.range(x.source(8, four, 0, 0, 1, 0));
+        dueRange("12: EVERY 1st", x, 4, 3, 2, 1);
+        x.range(x.source(8, four, 0, 0, 2, 0));
+        dueRange("12: EVERY 2nd", x, 4, 2);
+        x.range(x.source(8, four, 0, 0, 4, 0));
+        dueRange("12: EVERY 4th", x, 4);
+        x.range(x.source(8, x.list(), 0, 0, 1, 0));
+        dueRange("12: EVERY of none", x);
     }
 
     /** Six levels that each keep 200 numbers standing while the next is gathered. */
@@ -674,6 +738,8 @@ public final class PromiseTests {
         x.range(x.span(0, MAX - 1, 1));
         due("16: -1 leaves 1", 1, x.draw(-1));
         due("16: greatest leaves 0", 0, x.draw(MAX));
+        x.range(listOf(x, 6));
+        due("16: of one", 6, x.draw(MAX));
         x.range(x.list());
         dueThrow("16: it has none", () -> x.draw(-1));
     }
@@ -773,6 +839,7 @@ public final class PromiseTests {
         promise3Item();
         promise4Box();
         promise5Filter();
+        promise5FilterDepth();
         promise6AskOfNumbers();
         promise6AskOfShelvesAndBoxes();
         promise6AskOfFilters();
@@ -783,12 +850,15 @@ public final class PromiseTests {
         promise9List();
         promise10Add();
         promise11Source();
+        promise11SourceDepth();
         promise12RangeOfLists();
         promise12RangeNearExactly();
         promise12RangeOfPlain();
         promise12RangeLarge();
         promise12RangeFailed();
         promise12RangeWild();
+        promise12RangeOfT();
+        promise12RangeOfEvery();
         promise12RangeDeep();
         promise13Size();
         promise14At();
