@@ -297,6 +297,8 @@ public final class PromiseTests {
         due("6: ELSE as b", 1, x.ask(orElse, -1));
         due("6: the FAILURE is counted", 1, x.told(2));
         due("6: ELSE as b", 0, x.ask(orElse, 13));
+        due("6: ELSE as a, which does not fail", 0, x.ask(x.filter(10, below, count, 0), 6));
+        due("6: b was not asked", 4, x.asked(count));
         int twice = x.filter(10, own, own, 0);
         due("6: ELSE fails as b", OWN, x.ask(twice, 3));
         due("6: both are counted", 2, x.told(2));
@@ -568,6 +570,9 @@ public final class PromiseTests {
         int join = join(x, most, one);
         due("12: JOIN of 201, one of them twice", LARGE, x.range(join));
         due("12: EVERY of that", LARGE, x.range(x.source(8, join, 0, 0, 200, 0)));
+        int half = x.span(1, 150, 1);
+        due("12: MEET of 150, t of 120", 1, x.range(x.source(3, half, join(x, x.span(1, 60, 1), x.span(141, 200, 1)), 0, 0, 0)));
+        due("12: MEET of 150, t of 120", 70, x.size());
         due("12: NEAR of 201", LARGE, x.range(x.source(6, large, 0, 0, 1, 7)));
         due("12: MEET, t of 201", LARGE, x.range(x.source(3, one, large, 0, 0, 0)));
         due("12: LESS, s of 201", LARGE, x.range(x.source(4, large, one, 0, 0, 0)));
@@ -652,6 +657,7 @@ public final class PromiseTests {
         dueRange("12: JOIN, t is EVERY", x, 1, 2, 3, 4, 5);
         x.range(join(x, s, pass(x, t, below)));
         dueRange("12: JOIN, t is PASS", x, 1, 2, 3, 4, 5);
+        due("12: who does not pass is not BARRED", 0, x.barred());
         x.range(join(x, s, join(x, t, s)));
         dueRange("12: JOIN, t is JOIN", x, 1, 2, 3, 9, 4, 8, 5);
     }
