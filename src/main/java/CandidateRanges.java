@@ -113,7 +113,7 @@ public final class CandidateRanges {
             return BAD;
         }
         // The distance may need all 64 bits, so it is taken, and divided, without sign.
-        long steps = low > high ? -1 : Long.divideUnsigned(high - low, step);
+        long steps = low > high ? -1 : unsignedQuotient(high - low, step);
         if (low <= high && (steps < 0 || steps == Long.MAX_VALUE)) {
             return FULL;
         }
@@ -191,7 +191,7 @@ public final class CandidateRanges {
         if (many <= 0) {
             throw new IndexOutOfBoundsException("the range has no numbers");
         }
-        return latest.numberAt(Long.remainderUnsigned(n, many));
+        return latest.numberAt(unsignedRest(n, many));
     }
 
     public int barred() {
@@ -306,6 +306,29 @@ public final class CandidateRanges {
 
     private static long gap(long a, long b) {
         return a >= b ? a - b : b - a;
+    }
+
+    /** Adding the least long turns the order without sign into the order with sign. */
+    private static boolean unsignedBelow(long a, long b) {
+        return a + Long.MIN_VALUE < b + Long.MIN_VALUE;
+    }
+
+    /** How often the divisor goes into the number, both without sign; 0 for a divisor of 0. */
+    private static long unsignedQuotient(long number, long divisor) {
+        if (divisor == 0 || unsignedBelow(number, divisor)) {
+            return 0;
+        }
+        if (divisor < 0) {
+            // From 2^63 on it goes into no number of 64 bits twice.
+            return 1;
+        }
+        // Half the number has no 64th bit, so / divides it exactly; doubled again, that is at most 1 too low.
+        long low = ((number >>> 1) / divisor) << 1;
+        return unsignedBelow(number - low * divisor, divisor) ? low : low + 1;
+    }
+
+    private static long unsignedRest(long number, long divisor) {
+        return number - unsignedQuotient(number, divisor) * divisor;
     }
 
     /** The index of v in row from .. to - 1, or -1. */
@@ -616,10 +639,10 @@ public final class CandidateRanges {
                 return 0;
             }
             long far = gap(first, v);
-            if (count == 1 || stride == 0 || Long.remainderUnsigned(far, stride) != 0) {
+            if (count == 1 || stride == 0 || unsignedRest(far, stride) != 0) {
                 return -1;
             }
-            long k = Long.divideUnsigned(far, stride);
+            long k = unsignedQuotient(far, stride);
             return k > 0 && k < count ? k : -1;
         }
 
@@ -774,8 +797,9 @@ public final class CandidateRanges {
         }
 
         private boolean isNearer(long number, long other) {
-            int order = Long.compareUnsigned(gap(number, v), gap(other, v));
-            return order < 0 || order == 0 && number < other;
+            long far = gap(number, v);
+            long otherFar = gap(other, v);
+            return unsignedBelow(far, otherFar) || far == otherFar && number < other;
         }
 
         private int keepEvery(long[] pool, int from, int to) {

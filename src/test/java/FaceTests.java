@@ -12,6 +12,8 @@ import java.util.Arrays;
 import java.util.List;
 import java.util.Set;
 import java.util.TreeSet;
+import java.util.regex.Matcher;
+import java.util.regex.Pattern;
 
 /** The public face, what can be told of LANGUAGE.md by looking at the class, and the room that calls take. */
 public final class FaceTests {
@@ -26,6 +28,10 @@ public final class FaceTests {
         "long barredAt(int)", "long distance(long, long)", "int told(int)"));
     private static final Set<String> THROWING = Set.of("at", "draw", "barredAt");
     private static final Set<String> LIBRARY = Set.of("java.util.Arrays", "java.util.ArrayList", "java.util.List");
+
+    private static final Set<String> LISTED = Set.of("Long.MIN_VALUE", "Long.MAX_VALUE", "Math.max", "Math.min", "Math.abs",
+        "Math.floorDiv", "Math.floorMod", "Long.compare", "Integer.compare", "Long.bitCount", "Integer.bitCount",
+        "Arrays.fill", "Arrays.copyOf", "Arrays.copyOfRange", "System.arraycopy", "List.of");
 
     private static int wrong = 0;
 
@@ -95,11 +101,25 @@ public final class FaceTests {
                 check(LIBRARY.contains(line.substring(7, line.indexOf(';'))), line);
             }
         }
+        checkLibrary(code);
         for (String word : new String[] {"try", "catch", "finally", "synchronized", "assert", "package", "protected"}) {
             check(!code.matches("(?s).*\\b" + word + "\\b.*"), "the word " + word);
         }
         for (String sign : new String[] {"->", "::", "Exact("}) {
             check(!code.contains(sign), "the sign " + sign);
+        }
+    }
+
+    /** Rule 4 names the functions of numbers "and their like": here only those that it names are taken. */
+    private static void checkLibrary(String code) {
+        Matcher uses = Pattern.compile("\\b([A-Z][A-Za-z]*)\\s*\\.\\s*([A-Za-z]\\w*)").matcher(code.replaceAll("(?m)^import .*$", ""));
+        Set<String> own = new TreeSet<>(List.of("CandidateRanges"));
+        for (Class<?> inside : CandidateRanges.class.getDeclaredClasses()) {
+            own.add(inside.getSimpleName());
+        }
+        while (uses.find()) {
+            String use = uses.group(1) + "." + uses.group(2);
+            check(own.contains(uses.group(1)) || LISTED.contains(use), use + " is not on the list of rule 4");
         }
     }
 

@@ -3,7 +3,7 @@ public final class PromiseTests {
     private static final int NONE = CandidateRanges.NONE, BAD = CandidateRanges.BAD;
     private static final int FULL = CandidateRanges.FULL, LARGE = CandidateRanges.LARGE;
     private static final int NULL = -11, INDEX = -12, SIZE = -13, STORE = -14, CAST = -15, DIVIDE = -16, OWN = -17, WILD = -18;
-    private static final long MIN = Long.MIN_VALUE, MAX = Long.MAX_VALUE;
+    private static final long MIN = Long.MIN_VALUE, MAX = Long.MAX_VALUE, HALF = 1L << 62;
 
     private static int checks = 0;
     private static int wrong = 0;
@@ -393,6 +393,32 @@ public final class PromiseTests {
         due("8: BAD before FULL", BAD, x.span(0, 1, 0));
     }
 
+    private static void promise8SpanOfAll64Bits() {
+        CandidateRanges x = new CandidateRanges();
+        due("8: 2^63 numbers by 2", FULL, x.span(MIN, MAX - 1, 2));
+        due("8: 2^63 numbers from -1", FULL, x.span(-1, MAX - 1, 1));
+        due("8: 2^63 + 1 numbers from -1", FULL, x.span(-1, MAX, 1));
+        due("8: 2^63 numbers on both sides of 0", FULL, x.span(-HALF, HALF - 1, 1));
+        due("8: 2^63 - 1 numbers on both sides of 0", 0, x.span(-HALF, HALF - 2, 1));
+        due("8: 2^63 - 1 numbers by 2", 1, x.span(MIN, MAX - 2, 2));
+        due("8: 2^63 - 1 numbers from -1", 2, x.span(-1, MAX - 2, 1));
+        due("8: by 3", 3, x.span(MIN, MAX, 3));
+        due("8: by 2^62", 4, x.span(MIN, MAX, HALF));
+        due("8: by 2^62 + 1", 5, x.span(MIN, MAX, HALF + 1));
+        x.range(1);
+        due("8: size by 2", MAX, x.size());
+        due("8: the last by 2", MAX - 3, x.at(MAX - 1));
+        x.range(2);
+        due("8: size from -1", MAX, x.size());
+        due("8: the last from -1", MAX - 2, x.at(MAX - 1));
+        x.range(3);
+        due("8: size by 3", 6148914691236517206L, x.size());
+        x.range(4);
+        dueRange("8: by 2^62", x, MIN, -HALF, 0, HALF);
+        x.range(5);
+        dueRange("8: by 2^62 + 1", x, MIN, -HALF + 1, 2, HALF + 3);
+    }
+
     private static void promise9List() {
         CandidateRanges x = new CandidateRanges();
         for (int s = 0; s < 20; s++) {
@@ -733,6 +759,32 @@ public final class PromiseTests {
         due("15: far above", -1, x.place(MAX));
     }
 
+    private static void promise15PlaceOfAll64Bits() {
+        CandidateRanges x = new CandidateRanges();
+        x.range(x.span(MIN, MAX, 3));
+        due("15: 2^63 + 1 from the first", 3074457345618258603L, x.place(1));
+        due("15: 2^63 from the first", -1, x.place(0));
+        due("15: 2^63 - 1 from the first", -1, x.place(-1));
+        due("15: 2^63 - 2 from the first", 3074457345618258602L, x.place(-2));
+        due("15: 2^64 - 1 from the first", 6148914691236517205L, x.place(MAX));
+        due("15: 2^64 - 2 from the first", -1, x.place(MAX - 1));
+        int quarters = x.span(MIN, MAX, HALF);
+        int halves = x.source(8, quarters, 0, 0, 2, 0), threes = x.source(8, quarters, 0, 0, 3, 0);
+        x.range(halves);
+        dueRange("15: 2^63 apart", x, MIN, 0);
+        for (long v : new long[] {-HALF, HALF, -1, 1, MIN + 1, MAX}) {
+            due("15: 2^63 apart, " + v, -1, x.place(v));
+        }
+        x.range(x.source(5, threes, 0, 0, 0, 0));
+        dueRange("15: 3 * 2^62 apart, TURNED", x, HALF, MIN);
+        for (long v : new long[] {-HALF, 0, HALF - 1, HALF + 1, MIN + 1, MAX}) {
+            due("15: 3 * 2^62 apart, TURNED, " + v, -1, x.place(v));
+        }
+        x.range(x.span(MIN, -2, 1));
+        due("15: 2^64 - 1 beyond the first by 1", -1, x.place(MAX));
+        due("15: 2^63 beyond the first by 1", -1, x.place(0));
+    }
+
     private static void promise16Draw() {
         CandidateRanges x = new CandidateRanges();
         dueThrow("16: no range", () -> x.draw(1));
@@ -748,6 +800,32 @@ public final class PromiseTests {
         due("16: of one", 6, x.draw(MAX));
         x.range(x.list());
         dueThrow("16: it has none", () -> x.draw(-1));
+    }
+
+    private static void promise16DrawOfAll64Bits() {
+        CandidateRanges x = new CandidateRanges();
+        x.range(x.span(MIN, MAX, 3));
+        due("16: 2^64 - 1 of a third", MAX - 6, x.draw(-1));
+        due("16: 2^63 of a third", -2, x.draw(MIN));
+        due("16: 2^63 - 1 of a third", -5, x.draw(MAX));
+        x.range(x.span(0, HALF - 1, 1));
+        due("16: 2^64 - 1 of 2^62", HALF - 1, x.draw(-1));
+        due("16: 2^63 of 2^62", 0, x.draw(MIN));
+        due("16: 2^63 + 5 of 2^62", 5, x.draw(MIN + 5));
+        due("16: 2^62 of 2^62", 0, x.draw(HALF));
+        x.range(x.span(0, HALF, 1));
+        due("16: 2^64 - 1 of 2^62 + 1", HALF - 4, x.draw(-1));
+        due("16: 2^63 of 2^62 + 1", HALF - 1, x.draw(MIN));
+        x.range(x.span(0, MAX - 1, 1));
+        due("16: 2^64 - 2 of 2^63 - 1", 0, x.draw(-2));
+        due("16: 2^64 - 3 of 2^63 - 1", MAX - 1, x.draw(-3));
+        due("16: 2^63 of 2^63 - 1", 1, x.draw(MIN));
+        x.range(x.span(0, 9, 1));
+        due("16: 2^64 - 1 of ten", 5, x.draw(-1));
+        due("16: 2^63 of ten", 8, x.draw(MIN));
+        x.range(x.span(7, 7, 1));
+        due("16: 2^64 - 1 of one", 7, x.draw(-1));
+        due("16: 2^63 of one", 7, x.draw(MIN));
     }
 
     private static void promise17To19Barred() {
@@ -853,6 +931,7 @@ public final class PromiseTests {
         promise6AskAtTheEdgeOfWild();
         promise7Asked();
         promise8Span();
+        promise8SpanOfAll64Bits();
         promise9List();
         promise10Add();
         promise11Source();
@@ -869,7 +948,9 @@ public final class PromiseTests {
         promise13Size();
         promise14At();
         promise15Place();
+        promise15PlaceOfAll64Bits();
         promise16Draw();
+        promise16DrawOfAll64Bits();
         promise17To19Barred();
         promise20Distance();
         promise21Told();
