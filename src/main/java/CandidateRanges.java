@@ -16,6 +16,7 @@ public final class CandidateRanges {
     private static final int SHELVES = 6, BOXES = 3, THINGS = 3, ROW = 12;
     private static final int MOST_FILTERS = 20, MOST_SOURCES = 20, DEEPEST = 6;
     private static final int MOST_FAILURES = 20, MOST_GATHERED = 200;
+    private static final long HIGHEST_BIT = 1L << 63;
 
     private final Shelf[] shelves = new Shelf[SHELVES];
     private final Box[] boxes = new Box[BOXES];
@@ -112,12 +113,16 @@ public final class CandidateRanges {
         if (step < 1) {
             return BAD;
         }
+        if (low > high) {
+            return keepSource(new Source(new Stretch(low, step, false, 0)));
+        }
         // The distance may need all 64 bits, so it is taken, and divided, without sign.
-        long steps = low > high ? -1 : unsignedQuotient(high - low, step);
-        if (low <= high && (steps < 0 || steps == Long.MAX_VALUE)) {
+        long count = unsignedQuotient(high - low, step) + 1;
+        // From 2^63 on the count has wrapped around to below 0, and 2^64 to 0.
+        if (count < 1) {
             return FULL;
         }
-        return keepSource(new Source(new Stretch(low, step, false, steps + 1)));
+        return keepSource(new Source(new Stretch(low, step, false, count)));
     }
 
     public int list() {
@@ -308,9 +313,9 @@ public final class CandidateRanges {
         return a >= b ? a - b : b - a;
     }
 
-    /** Adding the least long turns the order without sign into the order with sign. */
+    /** Turning the highest bit over makes the order without sign the order with sign. */
     private static boolean unsignedBelow(long a, long b) {
-        return a + Long.MIN_VALUE < b + Long.MIN_VALUE;
+        return (a ^ HIGHEST_BIT) < (b ^ HIGHEST_BIT);
     }
 
     /** How often the divisor goes into the number, both without sign; 0 for a divisor of 0. */

@@ -29,7 +29,7 @@ public final class FaceTests {
     private static final Set<String> THROWING = Set.of("at", "draw", "barredAt");
     private static final Set<String> LIBRARY = Set.of("java.util.Arrays", "java.util.ArrayList", "java.util.List");
 
-    private static final Set<String> LISTED = Set.of("Long.MIN_VALUE", "Long.MAX_VALUE", "Math.max", "Math.min", "Math.abs",
+    private static final Set<String> LISTED = Set.of("Math.max", "Math.min", "Math.abs",
         "Math.floorDiv", "Math.floorMod", "Long.compare", "Integer.compare", "Long.bitCount", "Integer.bitCount",
         "Arrays.fill", "Arrays.copyOf", "Arrays.copyOfRange", "System.arraycopy", "List.of");
 
