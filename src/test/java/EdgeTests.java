@@ -541,9 +541,17 @@ public final class EdgeTests {
         });
         edge(1, "public CandidateRanges();", x -> {
             furnishAndFill(x);
-            dueSameRecords(new CandidateRanges(), new CandidateRanges());
-            due(0, new CandidateRanges().told(0));
-            due(BY_NULL, new CandidateRanges().item(0, 0, 0));
+            CandidateRanges other = new CandidateRanges();
+            due(0, other.told(0));
+            due(0, other.told(1));
+            due(0, other.size());
+            due(0, other.barred());
+            due(EMPTY, other.box(2, 1));
+            due(BY_NULL, other.item(0, 0, 0));
+            due(1, x.item(0, 0, 5));
+            due(20, x.told(0));
+            due(A_SHELL, x.box(2, 1));
+            dueNumbers(x, 0);
         });
         faceLine(2, "public int shelf(int k, int kind, int n);", "shelf");
         faceLine(3, "public int item(int k, int i, long v);", "item");
